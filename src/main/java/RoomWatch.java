@@ -425,6 +425,9 @@ public final class RoomWatch {
             return BAD;
         }
         Text t = now.texts[text];
+        if (t == null) {
+            return BAD;
+        }
         return what == 0 ? t.key : t.leaves;
     }
 
@@ -790,7 +793,7 @@ public final class RoomWatch {
 
         boolean looksAt(int rows, int columns) {
             switch (kind) {
-                case WEDGE: return aheadBy(rows, columns) >= asideBy(rows, columns);
+                case WEDGE: return aheadBy(rows, columns) >= Math.abs(asideBy(rows, columns));
                 case SLIT: return aheadBy(rows, columns) > 0 && asideBy(rows, columns) == 0;
                 case DOOR: return Math.abs(rows) + Math.abs(columns) <= 2;
                 default: return true;
@@ -807,7 +810,7 @@ public final class RoomWatch {
         }
 
         int asideBy(int rows, int columns) {
-            return Math.abs(side % 2 == 0 ? columns : rows);
+            return side % 2 == 0 ? columns : rows;
         }
 
         int reachFrom(int plain) {
