@@ -878,7 +878,7 @@ public final class RoomWatch {
         }
 
         boolean hasWall(int cell) {
-            return (walls & bit(cell)) != 0;
+            return (walls >>> cell & 1) != 0;
         }
 
         int ownerOf(int cell) {
