@@ -480,8 +480,7 @@ public final class RoomWatch {
         if (v != NONE && (v < -MOST_FLOAT || v > MOST_FLOAT)) {
             return BAD;
         }
-        s.noNumbers[place] = v == NONE;
-        s.places[place] = v == NONE ? 0 : v;
+        s.places[place] = v;
         return 1;
     }
 
@@ -496,7 +495,7 @@ public final class RoomWatch {
         int otherwise = 0;
         for (int k = 0; k < now.postCount && k < s.size; k++) {
             int tired = held(s.places[k], MOST_TIRED);
-            if (!s.noNumbers[k] && now.posts[k].tired != tired) {
+            if (s.hasNumber(k) && now.posts[k].tired != tired) {
                 now.posts[k].tired = tired;
                 otherwise++;
             }
@@ -514,7 +513,7 @@ public final class RoomWatch {
         }
         for (int k = 0; k < s.size; k++) {
             boolean isCellOfPost = k < now.postCount && now.posts[k].cell == s.places[k];
-            if (!s.noNumbers[k] && !isCellOfPost) {
+            if (s.hasNumber(k) && !isCellOfPost) {
                 return k;
             }
         }
@@ -537,7 +536,6 @@ public final class RoomWatch {
             return INDEX;
         }
         System.arraycopy(source.places, place, target.places, at, many);
-        System.arraycopy(source.noNumbers, place, target.noNumbers, at, many);
         return many;
     }
 
@@ -592,7 +590,7 @@ public final class RoomWatch {
         if (!isBelow(place, s.sheet.size)) {
             return INDEX;
         }
-        return s.sheet.noNumbers[place] ? KIND : s.sheet.places[place];
+        return s.sheet.hasNumber(place) ? s.sheet.places[place] : KIND;
     }
 
     public int rest(int slot, int n) {
@@ -716,7 +714,7 @@ public final class RoomWatch {
             if (k > 0) {
                 thought.passHours(1);
             }
-            for (int p = 0; p < thought.postCount && !s.noNumbers[k]; p++) {
+            for (int p = 0; p < thought.postCount && s.hasNumber(k); p++) {
                 differences[p] += Math.abs(thought.posts[p].tired - s.places[k]);
             }
         }
@@ -1395,12 +1393,14 @@ public final class RoomWatch {
         }
     }
 
-    /** A SHEET; its length in use changes, its rows stay, so that a new sort makes no new objects. */
+    /**
+     * A SHEET; its size changes, its row stays, so that a new sort makes no new objects. NO NUMBER is NONE
+     * in its place: no short and no float that a place takes is that number.
+     */
     private static final class Sheet {
         int sort = MISSING;
         int size = 0;
         final int[] places = new int[MOST_PLACES];
-        final boolean[] noNumbers = new boolean[MOST_PLACES];
 
         boolean isMissing() {
             return sort == MISSING;
@@ -1411,7 +1411,6 @@ public final class RoomWatch {
             size = newSize;
             for (int k = 0; k < MOST_PLACES; k++) {
                 places[k] = 0;
-                noNumbers[k] = false;
             }
         }
 
@@ -1419,7 +1418,10 @@ public final class RoomWatch {
             sort = other.sort;
             size = other.size;
             System.arraycopy(other.places, 0, places, 0, MOST_PLACES);
-            System.arraycopy(other.noNumbers, 0, noNumbers, 0, MOST_PLACES);
+        }
+
+        boolean hasNumber(int place) {
+            return isBelow(place, size) && places[place] != NONE;
         }
 
         /** Taken from the size, not added to the place: a sum could wrap. */
