@@ -1,11 +1,27 @@
 /** Counts answers that are due and those that are not, and tells the latter. */
 final class Due {
+    private static final long MOST_MILLIS = 600_000;
+
     private final String test;
     private int right = 0;
     private int wrong = 0;
 
     Due(String test) {
         this.test = test;
+        Thread watch = new Thread(this::stop);
+        watch.setDaemon(true);
+        watch.start();
+    }
+
+    /** A call that does not end would hold up all that comes behind it. */
+    private void stop() {
+        try {
+            Thread.sleep(MOST_MILLIS);
+        } catch (InterruptedException e) {
+            return;
+        }
+        System.out.println(test + ": a call does not end");
+        Runtime.getRuntime().halt(1);
     }
 
     void is(String call, long want, long got) {

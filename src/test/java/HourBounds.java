@@ -405,6 +405,8 @@ final class HourBounds {
         s.is("not one of a hundred", 0, x.hours(100));
         s.is("no draws", z, x.count(7));
         s.is("nor is any more tired", tired, x.told(0, 3));
+        s.leaves("hours", States.RICH, y -> y.hours(100), States.ROOM, States.TEXTS);
+        s.leaves("no hour is left", LATE, y -> y.hours(100));
         for (int left = 1; left <= 3; left++) {
             RoomWatch y = boxed(STOOL, 0);
             for (int k = 0; k < 99; k++) y.hours(100);

@@ -152,6 +152,7 @@ final class ImageBounds {
         for (int k = 1; k <= 60; k++) s.is("tell", k, x.tell(numbers[k % 6]));
         x.check(1);
         s.is("from the first again", 1, x.tell(5));
+        s.leaves("tell", States.RICH, y -> y.tell(5), States.WAITING);
 
         s.holds(44, "FULL: 60 wait.");
         for (int v : new int[] {0, MIN, MAX}) {
@@ -262,6 +263,7 @@ final class ImageBounds {
             s.is("so many", k, x.keep());
         }
         s.is("again", 8, x.keep());
+        s.leaves("keep", States.RICH, RoomWatch::keep, States.IMAGE, States.IMAGE_TEXTS, States.WAITING);
         x.set(7, 3, 5);
         x.keep();
         x.set(7, 3, 6);
@@ -295,6 +297,7 @@ final class ImageBounds {
         for (int k = 0; k < 8; k++) s.is("room for eight again", k, x.post(STOOL, k, 0));
         for (int k = 0; k < 14; k++) s.is("and for fourteen texts", k, Due.text(x, "fine 3"));
         s.is("again and again", 0, x.back());
+        s.leaves("back", States.RICH, RoomWatch::back, States.ROOM, States.TEXTS);
         s.is("from none to none", 0, x.back());
         s.is("eight", 8, States.after(States.PACKED).back());
         RoomWatch late = boxedAt(9999);

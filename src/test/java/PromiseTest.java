@@ -49,18 +49,6 @@ public final class PromiseTest {
         DUE.is(call, want, got);
     }
 
-    /** The document's draws, by themselves. */
-    private static final class Lot {
-        private int z;
-        private Lot(int z) {
-            this.z = z;
-        }
-        private int draw() {
-            z = z * 1103515245 + 12345;
-            return z >>> 8;
-        }
-    }
-
     private static RoomWatch with(int kind, int cell, int side) {
         RoomWatch x = new RoomWatch();
         is("post", 0, x.post(kind, cell, side));
@@ -242,7 +230,7 @@ public final class PromiseTest {
             is("12 side", lot.draw() % 4, x.told(k, 2));
             is("12 tired", lot.draw() % 60, x.told(k, 3));
         }
-        is("13 z", lot.z, x.seed(5));
+        is("13 z", lot.z(), x.seed(5));
         is("12 room for five", 5, x.deal(8));
         int z = x.count(7);
         is("12 full", 0, x.deal(1));
@@ -263,7 +251,7 @@ public final class PromiseTest {
         for (int k = 0; k < 8; k++) eight.draw();
         is("12 one cell alone", 1, w.deal(5));
         is("12 in it", 0, w.told(0, 1));
-        is("12 all four are drawn, then no more", eight.z, w.count(7));
+        is("12 all four are drawn, then no more", eight.z(), w.count(7));
     }
 
     private static int seedForCell(int cell) {
@@ -455,7 +443,7 @@ public final class PromiseTest {
             lot.draw();
             is("21 nobody catches", 0, x.hours(1));
             is("22 thief in hour " + k, row * 8 + column, x.room(2));
-            is("2 three draws without posts", lot.z, x.count(7));
+            is("2 three draws without posts", lot.z(), x.count(7));
         }
         is("22 unseen", 60, x.room(1));
         is("48 hour", 60, x.count(1));
@@ -494,7 +482,7 @@ public final class PromiseTest {
         }
         t.hours(50);
         for (int k = 0; k < 3; k++) is("2 side of " + k, sides[k], t.told(k, 2));
-        is("2 draws", turn.z, t.count(7));
+        is("2 draws", turn.z(), t.count(7));
 
         for (int tires = 0; tires < 100; tires++) {
             RoomWatch one = with(STOOL, 9, 3);
@@ -506,7 +494,7 @@ public final class PromiseTest {
             one.rule(1, tires);
             one.hours(1);
             is("2 below " + tires, turns ? 0 : 3, one.told(0, 2));
-            is("2 one more draw below " + tires, lots.z, one.count(7));
+            is("2 one more draw below " + tires, lots.z(), one.count(7));
         }
     }
 

@@ -234,6 +234,7 @@ final class RoomBounds {
         }
         s.is("whose the last cell is", 1, x.at(47, 0));
         s.is("where the thief is", 2, afterThief(x, 30).post(1, 30, 1));
+        s.leaves("post", States.RICH, y -> y.post(0, 1, 0), States.ROOM, States.TEXTS);
 
         s.holds(2, "BAD;");
         for (States.Run state : new States.Run[] {States.BARE, States.RICH, States.PACKED}) {
@@ -344,6 +345,10 @@ final class RoomBounds {
         }
         s.is("its cell stays", 5, x.told(0, 1));
         s.is("its side stays", 1, x.told(0, 2));
+        x.set(0, 3, 44);
+        x.turns(0, LAMP);
+        s.is("as tired as it was", 44, x.told(0, 3));
+        s.leaves("turns", States.RICH, y -> y.turns(5, 0), States.ROOM, States.TEXTS);
 
         s.holds(5, "BAD.");
         for (int wrong : Sentences.outside(0, 5)) {
@@ -365,6 +370,8 @@ final class RoomBounds {
         s.is("tired again", 99, x.set(0, 3, 99));
         s.is("side is", 3, x.told(0, 2));
         s.is("tired is", 99, x.told(0, 3));
+        s.leaves("side", States.RICH, y -> y.set(5, 2, 3), States.ROOM, States.TEXTS);
+        s.leaves("tired", States.RICH, y -> y.set(5, 3, 77), States.ROOM, States.TEXTS);
 
         s.holds(6, "BAD.");
         for (int wrong : Sentences.outside(0, 5)) s.refuses("post " + wrong, BAD, States.RICH, y -> y.set(wrong, 2, 1));
@@ -388,6 +395,13 @@ final class RoomBounds {
         s.is("its cell is its", 0, x.at(20, 0));
         s.is("the last is nobody's", NONE, x.at(47, 0));
         s.is("to where the thief is", 20, afterThief(x, 33).moves(0, 33));
+        RoomWatch same = with(SLIT, 0, 3);
+        same.set(0, 3, 44);
+        same.moves(0, 1);
+        s.is("the same kind", SLIT, same.told(0, 0));
+        s.is("the same side", 3, same.told(0, 2));
+        s.is("as tired as it was", 44, same.told(0, 3));
+        s.leaves("moves", States.RICH, y -> y.moves(5, 0), States.ROOM, States.TEXTS);
 
         s.holds(7, "BAD;");
         for (int wrong : Sentences.outside(0, 5)) s.refuses("post " + wrong, BAD, States.RICH, y -> y.moves(wrong, 0));
@@ -418,6 +432,10 @@ final class RoomBounds {
         s.is("none, where the thief is", 0, x.wall(0, 0));
         x.thief(47);
         s.is("the first cell, as the thief has gone", 0, x.wall(0, 1));
+        s.leaves("a wall comes", States.RICH, y -> y.wall(0, 1), States.ROOM);
+        s.leaves("a wall goes", States.RICH, y -> y.wall(10, 0), States.ROOM);
+        s.leaves("a wall stays", States.RICH, y -> y.wall(10, 1));
+        s.leaves("no wall comes", States.RICH, y -> y.wall(9, 0));
 
         s.holds(8, "BAD;");
         for (int wrong : Sentences.outside(0, 47)) {
@@ -466,6 +484,8 @@ final class RoomBounds {
         s.is("to where it is", 0, x.thief(0));
         s.is("to a post", 0, x.thief(20));
         s.is("it is there", 20, x.room(2));
+        s.leaves("thief", States.RICH, y -> y.thief(0), States.ROOM);
+        s.leaves("the thief stays", States.RICH, y -> y.thief(States.RICH_THIEF));
 
         s.holds(10, "BAD;");
         for (int wrong : Sentences.outside(0, 47)) s.refuses("cell " + wrong, BAD, States.RICH, y -> y.thief(wrong));
@@ -487,6 +507,8 @@ final class RoomBounds {
             s.is("to 0 again", 0, x.rule(what, 0));
             s.is("it is 0", 0, x.count(2 + what));
             s.is("the other one is as it was", what == 0 ? 30 : 20, x.count(3 - what));
+            int rule = what;
+            s.leaves("rule", States.RICH, y -> y.rule(rule, 1), States.ROOM);
         }
 
         s.holds(11, "BAD.");
@@ -609,6 +631,8 @@ final class RoomBounds {
                 s.is("posts", there + come, x.count(0));
             }
         }
+        s.leaves("deal", States.RICH, x -> x.deal(8), States.ROOM, States.TEXTS);
+        s.leaves("deal where there is no room", States.PACKED, x -> x.deal(8));
         RoomWatch none = eight();
         for (int cell = 8; cell < 48; cell++) none.wall(cell, 1);
         s.is("neither posts nor cells", 0, none.deal(8));
@@ -630,5 +654,6 @@ final class RoomBounds {
             s.is("it is " + v, v, x.count(7));
             was = v;
         }
+        s.leaves("seed", States.RICH, y -> y.seed(5), States.ROOM);
     }
 }

@@ -13,7 +13,6 @@ final class Sentences {
     static final int BAD = -1000000001, NO = -1000000002, FULL = -1000000003, NONE = -1000000005,
         NOTHING = -1000000011, KIND = -1000000012, INDEX = -1000000013, SIZE = -1000000014;
     static final int MIN = Integer.MIN_VALUE, MAX = Integer.MAX_VALUE;
-    static final int STOOL = 0, WEDGE = 1, LAMP = 2, SLIT = 3, DOOR = 4, DOZER = 5;
 
     private final Due due = new Due("BoundaryTest");
     private final String[] parts = new String[AHEAD + 1];
@@ -77,6 +76,18 @@ final class Sentences {
         }
     }
 
+    /** A call that does something leaves all parts of a state but these as they were. */
+    void leaves(String call, States.Run before, States.Call done, int... changed) {
+        for (int part = 0; part < States.PARTS; part++) {
+            boolean changes = false;
+            for (int each : changed) changes |= each == part;
+            if (changes) continue;
+            RoomWatch x = States.after(before);
+            done.on(x);
+            same(call, part, before, x);
+        }
+    }
+
     /** A call that is refused, but uses up what one part of a state tells. */
     void spends(String call, int want, int spent, States.Run before, States.Call tried) {
         for (int part = 0; part < States.PARTS; part++) {
@@ -94,7 +105,7 @@ final class Sentences {
         int[] untouched = States.told(part, States.after(before));
         int[] now = States.told(part, x);
         for (int k = 0; k < untouched.length; k++) {
-            is(call + " changes nothing, part " + part + ", answer " + k, untouched[k], now[k]);
+            is(call + " changes nothing there, part " + part + ", answer " + k, untouched[k], now[k]);
         }
     }
 

@@ -161,6 +161,8 @@ final class SheetBounds {
         RoomWatch beside = row(SHORTS, 1, 2);
         beside.sheet(1, FLOATS, 3);
         places("another one stays", beside, 0, 1, 2);
+        s.leaves("sheet", States.RICH, x -> x.sheet(0, 1, 4), States.SHEETS);
+        s.leaves("missing", States.RICH, x -> x.sheet(1, -1, 4), States.SHEETS);
 
         s.holds(35, "BAD: sheet, sort, n above 24;");
         for (int wrong : Sentences.outside(0, 3)) {
@@ -210,6 +212,7 @@ final class SheetBounds {
         s.is("the last place", 1, longest.mark(0, 23, 2));
         s.is("the first is", 1, place(longest, 0, 0));
         s.is("the last is", 2, place(longest, 0, 23));
+        s.leaves("mark", States.RICH, y -> y.mark(1, 0, 4), States.SHEETS);
 
         s.holds(36, "BAD: sheet;");
         for (int wrong : Sentences.outside(0, 3)) {
@@ -285,6 +288,7 @@ final class SheetBounds {
         s.is("no number at all", 0, y.pour(1));
         s.is("nobody", 0, row(SHORTS, 1, 2).pour(0));
         s.is("the sheet stays", -1, place(x, 0, 0));
+        s.leaves("pour", States.RICH, z -> z.pour(1), States.ROOM, States.TEXTS);
 
         s.holds(37, "BAD;");
         for (int wrong : Sentences.outside(0, 3)) s.refuses("sheet " + wrong, BAD, States.RICH, z -> z.pour(wrong));
@@ -383,6 +387,9 @@ final class SheetBounds {
         for (int k = 0; k < 24; k++) x.mark(0, k, k);
         s.is("24", 24, x.copy(0, 0, 3, 0, 24));
         for (int k = 0; k < 24; k++) s.is("24, place " + k, k, place(x, 3, k));
+        s.leaves("copy", States.PACKED, y -> y.copy(0, 0, 1, 0, 24), States.SHEETS);
+        s.leaves("copy of none", States.RICH, y -> y.copy(0, 3, 0, 0, 0));
+        s.leaves("copy to the same place", States.RICH, y -> y.copy(1, 0, 1, 0, 5));
 
         s.holds(39, "BAD;");
         for (int wrong : Sentences.outside(0, 3)) {
@@ -435,6 +442,10 @@ final class SheetBounds {
         RoomWatch x = States.after(States.PACKED);
         s.is("the last post", 1, x.lay(0, 1, 7));
         s.is("the last sheet", 2, x.lay(1, 2, 3));
+        for (int thing = 0; thing < 4; thing++) {
+            int each = thing;
+            s.leaves("lay " + thing, States.RICH, y -> y.lay(2, each, 0), States.SLOTS);
+        }
         for (int k : new int[] {MIN, -1, 0, 8, MAX, NONE, BAD}) {
             x.lay(2, 0, 0);
             s.is("nothing, k " + k, 0, x.lay(2, 0, k));

@@ -71,7 +71,7 @@ final class States {
         x.lay(2, 2, 1);
         x.lay(3, 3, -17);
         tellHours(x, "rich", States::richRoom, 3);
-        Due.tape(x, "fee c+3*u ");
+        Due.tape(x, "fee 31*007");
     }
 
     private static void packedRoom(RoomWatch x) {
@@ -197,10 +197,10 @@ final class States {
         row.add(x.check(Math.max(1, x.count(5) / 2)));
     }
 
+    /** What number the text has is no matter of THE TAPE. */
     private static void tape(RoomWatch x, Row row) {
         row.add(x.count(6));
-        row.add(x.text());
-        row.add(x.why(1));
+        row.add(Math.min(0, x.text()));
         row.add(x.fee());
     }
 }

@@ -290,6 +290,22 @@ final class TextBounds {
             } else {
                 fault("fee 1" + c + "1", 5);
             }
+            boolean letter = c >= 'a' && c <= 'z';
+            if (joins) {
+                right("fee c" + c + "c");
+                fault("fee" + c + "1", 3);
+            } else if (c == ' ') {
+                right("fee" + c + "1");
+            } else {
+                fault("fee c" + c + "c", letter ? 4 : 5);
+                if (c == '(') {
+                    fault("fee" + c + "1", 5);
+                } else if (c == '!') {
+                    right("fee" + c + "1");
+                } else {
+                    fault("fee" + c + "1", letter ? 0 : 3);
+                }
+            }
             if (c == '(' || c == '!') {
                 fault("fee " + c, 5);
             } else if (c != ' ' && c != 'c' && c != 'u' && (c < '0' || c > '9')) {
@@ -452,6 +468,7 @@ final class TextBounds {
         x.trim(84);
         s.is("to the last byte", 96, x.feed(0x20202020, 0x20202020, 0x20202078));
         s.is("which is the last", -195, x.text());
+        s.leaves("feed", States.RICH, y -> y.feed(1, 2, 3), States.TAPE);
 
         s.holds(30, "FULL: it would have more than 96.");
         s.refuses("all are there", FULL, States.PACKED, y -> y.feed(0, 0, 0));
@@ -478,6 +495,8 @@ final class TextBounds {
         x.feed(0, 0, 0);
         s.is("none", 0, x.trim(0));
         s.is("it has none", 0, x.count(6));
+        s.leaves("trim", States.RICH, y -> y.trim(3), States.TAPE);
+        s.leaves("trim to all", States.RICH, y -> y.trim(10));
 
         s.holds(31, "BAD.");
         for (int wrong : Sentences.outside(0, 10)) s.refuses("n " + wrong + " of 10", BAD, States.RICH, y -> y.trim(wrong));
@@ -492,7 +511,7 @@ final class TextBounds {
         RoomWatch longest = new RoomWatch();
         s.is("96 bytes", 0, Due.text(longest, "fee " + "1+".repeat(45) + "01"));
         s.is("all of them count", 46, longest.fee());
-        s.is("5 bytes", 0, Due.text(new RoomWatch(), "fee 1"));
+        s.leaves("text", States.RICH, RoomWatch::text, States.TAPE, States.TEXTS, States.ROOM);
 
         s.holds(32, "-100 less the place of its FAULT;");
         s.spends("an empty tape", -100, States.TAPE, States.BARE, RoomWatch::text);
