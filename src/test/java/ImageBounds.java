@@ -47,6 +47,11 @@ final class ImageBounds {
         return x;
     }
 
+    private static RoomWatch kept(RoomWatch x) {
+        x.keep();
+        return x;
+    }
+
     private static int checked(RoomWatch x, int n, int... numbers) {
         for (int v : numbers) x.tell(v);
         return x.check(n);
@@ -187,7 +192,7 @@ final class ImageBounds {
         for (int n : new int[] {1, 2, 29, 30}) {
             int[] due = new int[2 * n];
             System.arraycopy(thirty, 0, due, 0, 2 * n);
-            s.is("n " + n, 0, checked(x, n, due));
+            s.is("n " + n, 0, checked(kept(boxed()), n, due));
         }
         for (int hour : new int[] {9968, 9969, 9970, 9997, 9998, 9999}) {
             RoomWatch late = boxedAt(hour);
@@ -215,21 +220,21 @@ final class ImageBounds {
         for (int wrong = 0; wrong < 60; wrong++) {
             int[] due = thirty.clone();
             due[wrong]++;
-            s.is("the number " + wrong + " is not", 1 + wrong, checked(x, 30, due));
+            s.is("the number " + wrong + " is not", 1 + wrong, checked(kept(boxed()), 30, due));
         }
         int[] both = thirty.clone();
         both[7]--;
         both[3]--;
-        s.is("the first of two", 4, checked(x, 30, both));
+        s.is("the first of two", 4, checked(kept(boxed()), 30, both));
         for (int told : new int[] {0, 1, 2, 57, 58, 59}) {
             int[] due = new int[told];
             System.arraycopy(thirty, 0, due, 0, told);
-            s.is(told + " of 60, the next is missing", 1 + told, checked(x, 30, due));
+            s.is(told + " of 60, the next is missing", 1 + told, checked(kept(boxed()), 30, due));
         }
-        s.is("one too many", 3, checked(x, 1, thirty[0], thirty[1], thirty[2]));
-        s.is("two too many", 3, checked(x, 1, thirty[0], thirty[1], thirty[2], thirty[3]));
-        s.is("far too many", 3, checked(x, 1, thirty));
-        s.is("too many, but one is not", 2, checked(x, 1, thirty[0], -1, thirty[2]));
+        s.is("one too many", 3, checked(kept(boxed()), 1, thirty[0], thirty[1], thirty[2]));
+        s.is("two too many", 3, checked(kept(boxed()), 1, thirty[0], thirty[1], thirty[2], thirty[3]));
+        s.is("far too many", 3, checked(kept(boxed()), 1, thirty));
+        s.is("too many, but one is not", 2, checked(kept(boxed()), 1, thirty[0], -1, thirty[2]));
         RoomWatch last = boxedAt(9999);
         last.keep();
         s.is("no hour is left, one too many", 1, checked(last, 30, 0));

@@ -24,7 +24,7 @@ public final class LeanTest {
         Due.text(x, "reach t+s*h/3");
         use(x, 1);
         before = made();
-        use(x, CALLS / 24);
+        use(x, CALLS / 24 - 2);
         long calls = made() - before;
         due.is("bytes of calls (" + calls + ") are next to none", 1, calls <= MOST_BYTES_OF_CALLS ? 1 : 0);
 
